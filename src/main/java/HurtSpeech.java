@@ -700,7 +700,7 @@ public final class HurtSpeech {
             int interpreter = NOBODY;
             int most = 0;
             for (int d = 0; d < delegates; d++) {
-                boolean mayInterpret = d != by[s] && (tongues[d] >> tongue[s] & 1) == 1;
+                boolean mayInterpret = d != by[s] && ((tongues[d] >> tongue[s]) & 1) == 1;
                 int loss = mayInterpret ? lossOf(d, s, force[s]) : 0;
                 if (loss > most) {
                     most = loss;
@@ -909,7 +909,7 @@ public final class HurtSpeech {
         /** The caller has seen to it that there is room. */
         void add(int word, int n) {
             for (int i = n - 1; i >= 0; i--) {
-                bytes[size] = word >> 8 * i & 255;
+                bytes[size] = (word >> (8 * i)) & 255;
                 size++;
             }
         }
