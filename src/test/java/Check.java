@@ -1,5 +1,5 @@
 /** What the tests share: they say what a call answered and what was due. */
-final class Check {
+class Check {
     static final int BEYOND = -1000000001;
     static final int FULL = -1000000002;
     static final int KIND = -1000000003;
