@@ -252,6 +252,10 @@ public final class BestBoundsTest {
         check.tells(() -> twoPeers(1), "withdraw(60): 399, 369", 1, x -> x.withdraw(60));
         check.tells(() -> twoPeers(0), "withdraw(1): 340, 341", 0, x -> x.withdraw(1));
         check.tells(() -> twoPeers(0), "withdraw(2): 342, 341", 1, x -> x.withdraw(2));
+        check.topic("24: withdrawn now (FORCE 0)");
+        Supplier<HurtSpeech> small = () -> Check.told(
+                "delegate;clerk;delegate pride 0;speech 0 0 2 at 1;speech 0 0 2 at 2");
+        check.tells(small, "withdraw(2): 2, 1, while a force of 1 would hurt by 1 still", 1, x -> x.withdraw(2));
         check.tells(Scene::full, "withdraw(60), which is of no force more", Scene.full().withdraw(60),
                 x -> x.withdraw(60));
     }

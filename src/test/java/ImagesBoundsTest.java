@@ -77,6 +77,17 @@ public final class ImagesBoundsTest {
             x.sessions(100);
             return x.undo();
         }, HurtSpeech::image);
+        check.topic("36: one who comes then is as new as any");
+        HurtSpeech y = Scene.busy();
+        for (int what = 1; what <= 4; what++) {
+            y.set(6, what, 9);
+        }
+        check.due("undo(), to six", y.undo(), 6);
+        check.due("delegate(3)", y.delegate(3), 6);
+        int[] first = {3, 5, 1, 0, 0, 0};
+        for (int what = 0; what <= 5; what++) {
+            check.due("of(6, " + what + ")", y.of(6, what), first[what]);
+        }
         check.topic("36: THE TAPE not, nor sheets");
         check.leaves(Scene::busy, "image(), tape and sheets changed, undo()", x -> {
             x.image();

@@ -1,3 +1,5 @@
+import java.util.function.Supplier;
+
 /** Promises 13 to 18: each boundary that a sentence of them names, on both sides. */
 public final class SessionsBoundsTest {
     private static final Bounds check = new Bounds();
@@ -209,8 +211,14 @@ public final class SessionsBoundsTest {
         check.refused(SessionsBoundsTest::slow, "when(1, 99999)", Check.NONE, x -> x.when(1, 99999));
         check.refused(SessionsBoundsTest::slow, "when(0, 1)", Check.NONE, x -> x.when(0, 1));
         check.topic("18: is v or more first");
-        HurtSpeech x = lateWeeping(1, -1);
-        check.due("when(1, 399)", x.when(1, 399), 1);
-        check.due("when(1, 400), which is halved as soon as it is", x.when(1, 400), Check.NONE);
+        Supplier<HurtSpeech> byTwo = () -> Check.told("delegate;clerk;speech 0 0 4 at 1");
+        check.tells(byTwo, "when(1, 1), which it never is", 1, x -> x.when(1, 1));
+        check.tells(byTwo, "when(1, 2)", 1, x -> x.when(1, 2));
+        check.tells(byTwo, "when(1, 399), which it never is", 200, x -> x.when(1, 399));
+        check.tells(byTwo, "when(1, 400)", 200, x -> x.when(1, 400));
+        check.refused(byTwo, "when(1, 401)", Check.NONE, x -> x.when(1, 401));
+        HurtSpeech weeping = lateWeeping(1, -1);
+        check.due("when(1, 399)", weeping.when(1, 399), 1);
+        check.due("when(1, 400), which is halved as soon as it is", weeping.when(1, 400), Check.NONE);
     }
 }

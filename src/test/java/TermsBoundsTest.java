@@ -287,6 +287,7 @@ public final class TermsBoundsTest {
         for (int[] one : from) {
             would(one[0], 20, one[1] - 1, 0, 0);
             would(one[0], 20, one[1], 0, 1);
+            would(one[0], 20, one[1] + 1, 0, 1);
             would(one[0], 20, 99999, 0, 1);
             would(one[0], 20, 0, 6, 0);
         }
@@ -297,6 +298,8 @@ public final class TermsBoundsTest {
         check.topic("WEEPS, LORD: as PEER, but not with a PRIDE above 10.");
         would(LORD, 10, 399, 0, 0);
         would(LORD, 10, 400, 0, 1);
+        would(LORD, 10, 401, 0, 1);
+        would(LORD, 10, 99999, 0, 1);
         would(LORD, 11, 400, 0, 0);
         would(LORD, 0, 400, 0, 1);
         would(LORD, 20, 99999, 0, 0);
@@ -335,6 +338,7 @@ public final class TermsBoundsTest {
         goes(EXILE, 0, 20, 0, 20, 1, 5);
         goes(LORD, 10, 397, 0, 399, 0, 10);
         goes(LORD, 10, 398, 0, 200, 1, 5);
+        goes(LORD, 10, 399, 0, 200, 1, 5);
         goes(LORD, 11, 398, 0, 400, 0, 10);
         goes(SCRIBE, 0, 0, 5, 4, 0, 10);
         goes(SCRIBE, 0, 0, 6, 2, 1, 5);

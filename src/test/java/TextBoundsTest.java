@@ -10,6 +10,7 @@ public final class TextBoundsTest {
         feedBytes();
         wipe();
         tokens();
+        otherWords();
         bytesThatBeginNoToken();
         numbers();
         blanks();
@@ -137,6 +138,26 @@ public final class TextBoundsTest {
             fault(shorter, 0);
             fault(shorter + "z", 0);
             fault(names[kind] + "s", 0);
+        }
+    }
+
+    /** Each letter of each word becomes another one, is left out, or is there twice. */
+    private static void otherWords() {
+        check.topic("FAULT: another WORD");
+        String[] ahead = {"", "", "", "", "", "", "lord;", "lord ", "lord ", "lord;speech 0 0 0 "};
+        String[] words = {"delegate", "peer", "clerk", "exile", "lord", "scribe", "speech", "pride", "has", "at"};
+        String[] behind = {"", "", "", "", "", "", " 0 0 0", " 0", " 0", " 0"};
+        for (int i = 0; i < words.length; i++) {
+            String word = words[i];
+            HurtSpeech x = new HurtSpeech();
+            check.holds(word + " is one", Check.congress(x, ahead[i] + word + behind[i]) > 0);
+            for (int k = 0; k < word.length(); k++) {
+                String first = word.substring(0, k);
+                String rest = word.substring(k + 1);
+                fault(ahead[i] + first + (char) (word.charAt(k) + 1) + rest + behind[i], ahead[i].length());
+                fault(ahead[i] + first + rest + behind[i], ahead[i].length());
+                fault(ahead[i] + first + word.charAt(k) + word.charAt(k) + rest + behind[i], ahead[i].length());
+            }
         }
     }
 
