@@ -504,11 +504,11 @@ public final class HurtSpeech {
         return whose == ALL ? trial.hurtOfAll() : trial.hurt[whose];
     }
 
-    /** The least of the values below a bound with which hurtIf is least. */
+    /** The least of the values below a bound with which hurtIf is least; 0 is below each bound. */
     private int leastHurting(int change, int which, int bound, int whose, int n) {
         int best = 0;
-        int least = Integer.MAX_VALUE;
-        for (int v = 0; v < bound; v++) {
+        int least = hurtIf(change, which, 0, whose, n);
+        for (int v = 1; v < bound; v++) {
             int hurt = hurtIf(change, which, v, whose, n);
             if (hurt < least) {
                 least = hurt;
